@@ -34,7 +34,7 @@ public final class ApartSteps {
     private final WaysRow otherRow = new WaysRow();
 
     public ApartSteps() {
-        for (int i = 0; i < MAX_SAVED; i++) {
+        for (int i = 0; i < saved.length; i++) {
             saved[i] = new State();
         }
     }
@@ -443,11 +443,11 @@ public final class ApartSteps {
 
     // The oldest state's object moves to the end to be filled anew, so that saving makes no objects.
     private void dropOldest() {
-        State oldest = saved[0];
         for (int i = 1; i < saved.length; i++) {
+            State oldest = saved[i - 1];
             saved[i - 1] = saved[i];
+            saved[i] = oldest;
         }
-        saved[saved.length - 1] = oldest;
         savedCount = saved.length - 1;
     }
 
@@ -862,7 +862,7 @@ public final class ApartSteps {
         private void endNumber(long digits, int steps) {
             if (steps > STEPS) {
                 skipped++;
-            } else if (count < numbers.length) {
+            } else if (count >= 0 && count < numbers.length) {
                 long mark = digits & (1L << steps) - 1L;
                 numbers[count] = worthOfMark((int) mark);
                 count++;
@@ -958,13 +958,13 @@ public final class ApartSteps {
         }
 
         void put(int left, int count) {
-            for (int i = 0; i < size && i < lefts.length; i++) {
+            for (int i = 0; i < size && i < lefts.length && i < counts.length; i++) {
                 if (lefts[i] == left) {
                     counts[i] += count;
                     return;
                 }
             }
-            if (size >= 0 && size < lefts.length) {
+            if (size >= 0 && size < lefts.length && size < counts.length) {
                 lefts[size] = left;
                 counts[size] = count;
                 size++;
@@ -972,7 +972,7 @@ public final class ApartSteps {
         }
 
         void goOn(int step, WaysRow next) {
-            for (int i = 0; i < size && i < lefts.length; i++) {
+            for (int i = 0; i < size && i < lefts.length && i < counts.length; i++) {
                 if (lefts[i] <= worthBelow(step)) {
                     next.put(lefts[i], counts[i]);
                 }
@@ -984,7 +984,7 @@ public final class ApartSteps {
         }
 
         int countOf(int left) {
-            for (int i = 0; i < size && i < lefts.length; i++) {
+            for (int i = 0; i < size && i < lefts.length && i < counts.length; i++) {
                 if (lefts[i] == left) {
                     return counts[i];
                 }

