@@ -42,7 +42,8 @@ public final class SourceRulesTest {
     }
 
     private void allMethodsAreFound() {
-        List<String> declared = Stream.concat(Stream.of(ApartSteps.class), Arrays.stream(ApartSteps.class.getDeclaredClasses()))
+        Stream<Class<?>> inside = Arrays.stream(ApartSteps.class.getDeclaredClasses());
+        List<String> declared = Stream.concat(Stream.of(ApartSteps.class), inside)
                 .flatMap(type -> Arrays.stream(type.getDeclaredMethods())).filter(method -> !method.isSynthetic())
                 .map(Method::getName).toList();
         List<String> found = methods.stream().map(Source.Body::name).toList();
@@ -70,7 +71,8 @@ public final class SourceRulesTest {
     private void loopsCount(Source.Body method) {
         Matcher loop = LOOP.matcher(method.text());
         while (loop.find()) {
-            report.due("rule 9: " + method.name() + " counts in " + loop.group(), loop.group().matches(COUNTING_LOOP), true);
+            boolean counts = loop.group().matches(COUNTING_LOOP);
+            report.due("rule 9: " + method.name() + " counts in " + loop.group(), counts, true);
         }
     }
 
@@ -87,7 +89,8 @@ public final class SourceRulesTest {
         for (Method method : ApartSteps.class.getDeclaredMethods()) {
             if (Modifier.isPublic(method.getModifiers())) {
                 int depth = depthOf(method.getName(), 1);
-                report.due("rule 11: the calls in " + method.getName() + " are too deep: " + depth, depth > MAX_DEPTH, false);
+                String what = "rule 11: the calls in " + method.getName() + ", " + depth + " deep, are too deep";
+                report.due(what, depth > MAX_DEPTH, false);
             }
         }
     }
